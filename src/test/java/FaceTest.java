@@ -69,7 +69,8 @@ public final class FaceTest {
         }
         Set<String> publicNames = new TreeSet<>();
         for (Method m : c.getDeclaredMethods()) {
-            addUnlessPrivate(found, m.getModifiers(), m.getReturnType() + " " + m.getName() + types(m.getParameterTypes()));
+            String head = m.getReturnType() + " " + m.getName();
+            addUnlessPrivate(found, m.getModifiers(), head + types(m.getParameterTypes()));
             if (Modifier.isPublic(m.getModifiers())) {
                 publicNames.add(m.getName());
             }

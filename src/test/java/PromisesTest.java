@@ -23,7 +23,8 @@ public final class PromisesTest {
         sumOfTwoBlocks();
         poll();
         pollWhenFull();
-        pollKeepsItsNonce();
+        pollsSideBySide();
+        pollAsksWithItsNonce();
         again();
         againForCopies();
         againAfterTheEnd();
@@ -304,8 +305,8 @@ public final class PromisesTest {
         due.is("7: result(9)", x.result(9), 0);
     }
 
-    /** A sum asked for with another nonce, or of another part, would not be alike to the others. */
-    private static void pollKeepsItsNonce() {
+    /** Two polls at once, each with the sums of its own part. */
+    private static void pollsSideBySide() {
         PolledHouses x = withDeposit(0, 2, 0);
         x.poll(0, 0, 5L);
         x.poll(0, 1, 6L);
@@ -313,13 +314,45 @@ public final class PromisesTest {
         due.is("7: result(1)", x.result(1), 1);
         due.is("7: result(2)", x.result(2), 1);
         due.is("7: letters()", x.letters(), 0);
-        // In another place's poll a damage of part 1 is not seen by part 0, and is by part 1.
         x.damage(2, 0, 4, 1);
         x.poll(0, 0, 5L);
         x.poll(0, 1, 6L);
         steps(x, ASK, ASK, ASK, ASK, ASK, ASK, SUM, SUM, SUM, SUM, SUM, SUM);
         due.is("7: result(3)", x.result(3), 1);
         due.is("7: result(4)", x.result(4), 0);
+    }
+
+    /**
+     * With nonce 1, and no other that is asked for here, the bytes in house 0 have the same sum as those in
+     * the other houses: a poll that asks with another nonce than its own is found out.
+     */
+    private static void pollAsksWithItsNonce() {
+        int[] first = {90, 248, 115, 16, 150, 148, 196, 203};
+        int[] second = {11, 20, 170, 11, 51, 107, 16, 152};
+        PolledHouses x = withDeposit(0, 9, 0);
+        for (int n = 0; n < 8; n++) {
+            int i = n < 4 ? n : 28 + n;
+            for (int h = 0; h < 3; h++) {
+                int want = h == 0 ? first[n] : second[n];
+                due.is("7: damage to a chosen byte", x.damage(h, 0, i, x.at(h, 0, i) ^ want), want);
+            }
+        }
+        due.is("7: sum(0, 0, 0, 1)", x.sum(0, 0, 0, 1L), x.sum(1, 0, 0, 1L));
+        due.is("7: sum(0, 0, 0, 2) is another", x.sum(0, 0, 0, 2L) == x.sum(1, 0, 0, 2L), false);
+        askWithNonce(x, 0L, false);
+        askWithNonce(x, 1L, true);
+        askWithNonce(x, 2L, false);
+    }
+
+    private static void askWithNonce(PolledHouses x, long nonce, boolean isAgreed) {
+        int number = x.poll(0, 0, nonce);
+        steps(x, ASK, ASK, ASK, SUM, SUM, SUM);
+        due.is("7: result of a poll with nonce " + nonce, x.result(number), isAgreed ? 1 : 0);
+        due.is("7: letters()", x.letters(), isAgreed ? 0 : 3);
+        x.giveUp(number);
+        for (int k = isAgreed ? 0 : 3; k > 0; k--) {
+            due.is("10: lose(0)", x.lose(0), FETCH);
+        }
     }
 
     // Promise 8
