@@ -25,6 +25,10 @@ final class Due {
         return wrong;
     }
 
+    int seenCount() {
+        return seen;
+    }
+
     void end() {
         System.out.println(seen + " answers seen, " + wrong + " wrong");
         if (wrong != 0) {
